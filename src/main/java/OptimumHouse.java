@@ -93,7 +93,7 @@ public final class OptimumHouse {
             case 2:
                 return model.wholes();
             default:
-                return model.most ? 1 : 0;
+                return model.max ? 1 : 0;
         }
     }
 
@@ -123,7 +123,12 @@ public final class OptimumHouse {
         if (n < 1 || n > 500) {
             return NONE;
         }
-        return begun && search != null ? search.run(n) : 0;
+        if (!begun || search == null) {
+            return 0;
+        }
+        int done = search.run(n);
+        search.prove();
+        return done;
     }
 
     public int look(int what) {
@@ -230,14 +235,10 @@ public final class OptimumHouse {
             put(value);
         }
 
-        void gap() {
+        void word(String word) {
             if (length > 0) {
                 put(BLANK);
             }
-        }
-
-        void word(String word) {
-            gap();
             for (int i = 0; i < word.length(); i++) {
                 put(word.charAt(i));
             }
@@ -245,7 +246,9 @@ public final class OptimumHouse {
 
         /** A token that is a small number, 0 or more. */
         void count(int value) {
-            gap();
+            if (length > 0) {
+                put(BLANK);
+            }
             boolean started = false;
             for (int unit = 1000000000; unit > 0; unit /= 10) {
                 int digit = value / unit % 10;
@@ -256,12 +259,11 @@ public final class OptimumHouse {
             }
         }
 
-        void number(Big value) {
-            gap();
-            digits(value);
-        }
-
-        void digits(Big value) {
+        /** A number, behind a blank if it stands apart from what is there. */
+        void number(Big value, boolean apart) {
+            if (apart && length > 0) {
+                put(BLANK);
+            }
             if (value.sign < 0) {
                 put('-');
             }
@@ -281,7 +283,9 @@ public final class OptimumHouse {
         }
 
         void append(Text other) {
-            gap();
+            if (length > 0) {
+                put(BLANK);
+            }
             for (int i = 0; i < other.length; i++) {
                 put(other.bytes[i]);
             }
@@ -427,15 +431,9 @@ public final class OptimumHouse {
             trim();
         }
 
-        void add(Big other) {
-            join(other, other.sign);
-        }
-
-        void subtract(Big other) {
-            join(other, -other.sign);
-        }
-
-        private void join(Big other, int otherSign) {
+        /** Adds the other number, or takes it away if turn is -1. */
+        void add(Big other, int turn) {
+            int otherSign = turn * other.sign;
             if (otherSign == 0) {
                 return;
             }
@@ -457,15 +455,18 @@ public final class OptimumHouse {
         }
 
         private void addSize(Big other) {
-            int width = Math.min(Math.max(count, other.count) + 1, LIMBS);
+            int width = Math.max(count, other.count);
             int carry = 0;
             for (int i = 0; i < width; i++) {
                 int sum = carry + (i < count ? limbs[i] : 0) + (i < other.count ? other.limbs[i] : 0);
                 carry = sum >= BASE ? 1 : 0;
                 limbs[i] = sum - carry * BASE;
             }
+            if (carry > 0 && width < LIMBS) {
+                limbs[width] = carry;
+                width++;
+            }
             count = width;
-            trim();
         }
 
         /** Becomes the size of more less that of less; one of them is this register. */
@@ -518,9 +519,9 @@ public final class OptimumHouse {
                 quotient.turn();
                 if (sign != 0) {
                     help.put(1);
-                    quotient.subtract(help);
+                    quotient.add(help, -1);
                     turn();
-                    add(by);
+                    add(by, 1);
                 }
             }
         }
@@ -536,7 +537,10 @@ public final class OptimumHouse {
                 limbs[i] = (int) (part / by);
                 rest = part % by;
             }
-            trim();
+            while (count > 0 && limbs[count - 1] == 0) {
+                count--;
+            }
+            sign = count == 0 ? 0 : sign;
             return (int) rest;
         }
 
@@ -575,6 +579,7 @@ public final class OptimumHouse {
             reduce(factor);
         }
 
+        /** The quotient's digit at a place; its multiple is taken away from the limbs there. */
         private int digitAt(int at, Big by, int width) {
             long lead = by.limbs[width - 1];
             if (lead <= 0) {
@@ -590,38 +595,29 @@ public final class OptimumHouse {
                 guess--;
                 rest += lead;
             }
-            if (takeMultiple(at, by, width, guess)) {
-                guess--;
-                giveBack(at, by, width);
-            }
-            return (int) guess;
-        }
-
-        /** Takes the multiple away from the limbs at .. at + width; whether that was too much. */
-        private boolean takeMultiple(int at, Big by, int width, long times) {
             long carry = 0;
             for (int i = 0; i < width; i++) {
-                long part = times * by.limbs[i] + carry;
+                long part = guess * by.limbs[i] + carry;
                 carry = part / BASE;
-                int rest = limbs[at + i] - (int) (part - carry * BASE);
-                if (rest < 0) {
-                    rest += BASE;
+                int left = limbs[at + i] - (int) (part - carry * BASE);
+                if (left < 0) {
+                    left += BASE;
                     carry++;
                 }
-                limbs[at + i] = rest;
+                limbs[at + i] = left;
             }
-            long top = limbs[at + width] - carry;
+            boolean tooMuch = limbs[at + width] < carry;
             limbs[at + width] = 0;
-            return top < 0;
-        }
-
-        private void giveBack(int at, Big by, int width) {
-            int carry = 0;
-            for (int i = 0; i < width; i++) {
-                int sum = limbs[at + i] + by.limbs[i] + carry;
-                carry = sum >= BASE ? 1 : 0;
-                limbs[at + i] = sum - carry * BASE;
+            if (!tooMuch) {
+                return (int) guess;
             }
+            int back = 0;
+            for (int i = 0; i < width; i++) {
+                int sum = limbs[at + i] + by.limbs[i] + back;
+                back = sum >= BASE ? 1 : 0;
+                limbs[at + i] = sum - back * BASE;
+            }
+            return (int) guess - 1;
         }
     }
 
@@ -634,12 +630,12 @@ public final class OptimumHouse {
         private final boolean[] whole = new boolean[WIDTH];
         private int variables;
         private int rows;
-        private boolean most;
+        private boolean max;
 
         void clear() {
             variables = 0;
             rows = 0;
-            most = false;
+            max = false;
         }
 
         int number(int k, int j) {
@@ -669,10 +665,10 @@ public final class OptimumHouse {
             }
         }
 
-        void setGoal(long[] sum, boolean isMost) {
-            most = isMost;
+        void setGoal(long[] sum, boolean isMax) {
+            max = isMax;
             for (int j = 0; j <= variables; j++) {
-                setNumber(0, j, isMost ? sum[j] : -sum[j]);
+                setNumber(0, j, isMax ? sum[j] : -sum[j]);
             }
         }
 
@@ -761,13 +757,6 @@ public final class OptimumHouse {
             return token >= 0 && token < tokens ? values[token] : 0;
         }
 
-        /** Whether the text is a PROGRAM; if it isn't, stopPlace() tells where that shows. */
-        boolean read(Text text) {
-            scan(text);
-            at = 0;
-            return program();
-        }
-
         int stopPlace() {
             return start(at);
         }
@@ -776,10 +765,13 @@ public final class OptimumHouse {
             return tokens;
         }
 
-        private void scan(Text text) {
+        /** Takes the tokens of a text, up to the first that is none. */
+        void scan(Text text) {
             tokens = 0;
             int length = Math.min(text.length(), MOST_BYTES);
-            for (int i = 0; i < length; i = scanOne(text, i)) {
+            int i = 0;
+            for (int turn = 0; turn < MOST_BYTES && i < length; turn++) {
+                i = scanOne(text, i);
                 if (tokens > 0 && kinds[tokens - 1] == BAD) {
                     return;
                 }
@@ -858,23 +850,21 @@ public final class OptimumHouse {
         }
 
         private boolean is(int kind) {
-            return kind(at) == kind;
+            return at < tokens && kinds[at] == kind;
         }
 
-        private boolean need(int kind) {
-            if (!is(kind)) {
+        /** Passes the token if it is of that kind; answers whether it was. */
+        private boolean pass(int kind) {
+            if (at >= tokens || kinds[at] != kind) {
                 return false;
             }
             at++;
             return true;
         }
 
-        /** Passes the token if it is of that kind; answers whether it was. */
-        private boolean pass(int kind) {
-            return need(kind);
-        }
-
-        private boolean program() {
+        /** Whether the tokens are a PROGRAM; if they aren't, stopPlace() tells where that shows. */
+        boolean isProgram() {
+            at = 0;
             for (int i = 0; i < tokens && (is(SET) || is(PAR) || is(VAR)); i++) {
                 if (!declaration()) {
                     return false;
@@ -884,7 +874,7 @@ public final class OptimumHouse {
                 return false;
             }
             at++;
-            if (!expression(0) || !need(SEMICOLON)) {
+            if (!expression(0) || !pass(SEMICOLON)) {
                 return false;
             }
             for (int i = 0; i < tokens && is(ROW); i++) {
@@ -898,39 +888,39 @@ public final class OptimumHouse {
         private boolean declaration() {
             int kind = kind(at);
             at++;
-            if (!need(NAME)) {
+            if (!pass(NAME)) {
                 return false;
             }
             if (kind == SET) {
-                return need(EQUAL) && need(NUMBER) && need(DOTS) && need(NUMBER) && need(SEMICOLON);
+                return pass(EQUAL) && pass(NUMBER) && pass(DOTS) && pass(NUMBER) && pass(SEMICOLON);
             }
             if (!indexes()) {
                 return false;
             }
             if (kind == VAR) {
                 pass(WHOLE);
-                return need(SEMICOLON);
+                return pass(SEMICOLON);
             }
-            return need(EQUAL) && valueList() && need(SEMICOLON);
+            return pass(EQUAL) && valueList() && pass(SEMICOLON);
         }
 
         private boolean indexes() {
             if (!pass(OPEN)) {
                 return true;
             }
-            if (!need(NAME)) {
+            if (!pass(NAME)) {
                 return false;
             }
-            if (pass(COMMA) && !need(NAME)) {
+            if (pass(COMMA) && !pass(NAME)) {
                 return false;
             }
-            return need(CLOSE);
+            return pass(CLOSE);
         }
 
         private boolean valueList() {
             for (int i = 0; i < tokens; i++) {
                 pass(MINUS);
-                if (!need(NUMBER)) {
+                if (!pass(NUMBER)) {
                     return false;
                 }
                 if (!pass(COMMA)) {
@@ -942,20 +932,20 @@ public final class OptimumHouse {
 
         private boolean row() {
             at++;
-            if (!need(NAME)) {
+            if (!pass(NAME)) {
                 return false;
             }
-            if (pass(OPEN) && !(need(NAME) && need(IN) && need(NAME) && need(CLOSE))) {
+            if (pass(OPEN) && !(pass(NAME) && pass(IN) && pass(NAME) && pass(CLOSE))) {
                 return false;
             }
-            if (!need(COLON) || !expression(0)) {
+            if (!pass(COLON) || !expression(0)) {
                 return false;
             }
             if (!is(AT_MOST) && !is(AT_LEAST) && !is(EQUAL)) {
                 return false;
             }
             at++;
-            return expression(0) && need(SEMICOLON);
+            return expression(0) && pass(SEMICOLON);
         }
 
         private boolean expression(int depth) {
@@ -998,11 +988,11 @@ public final class OptimumHouse {
                     return factor(depth + 1);
                 case LEFT:
                     at++;
-                    return expression(depth + 1) && need(RIGHT);
+                    return expression(depth + 1) && pass(RIGHT);
                 case SUM:
                     at++;
-                    return need(NAME) && need(IN) && need(NAME) && need(LEFT)
-                        && expression(depth + 1) && need(RIGHT);
+                    return pass(NAME) && pass(IN) && pass(NAME) && pass(LEFT)
+                        && expression(depth + 1) && pass(RIGHT);
                 case NAME:
                     at++;
                     return !pass(OPEN) || items();
@@ -1018,19 +1008,19 @@ public final class OptimumHouse {
             if (pass(COMMA) && !item()) {
                 return false;
             }
-            return need(CLOSE);
+            return pass(CLOSE);
         }
 
         private boolean item() {
             if (pass(NUMBER)) {
                 return true;
             }
-            if (!need(NAME)) {
+            if (!pass(NAME)) {
                 return false;
             }
             if (is(PLUS) || is(MINUS)) {
                 at++;
-                return need(NUMBER);
+                return pass(NUMBER);
             }
             return true;
         }
@@ -1080,21 +1070,24 @@ public final class OptimumHouse {
         private int looked;
         private int at;
         private int faultKind;
-        private int place;
+        private int faultAt;
 
         int faultPlace() {
-            return place;
+            return faultAt;
         }
 
         int read(Text text, Model target) {
             faultKind = 0;
-            place = NONE;
+            faultAt = NONE;
             if (text.length() > Syntax.MOST_BYTES) {
                 faultKind = FAULT_SYNTAX;
-                place = Syntax.MOST_BYTES;
-            } else if (!syntax.read(text)) {
+                faultAt = Syntax.MOST_BYTES;
+                return faultKind;
+            }
+            syntax.scan(text);
+            if (!syntax.isProgram()) {
                 faultKind = FAULT_SYNTAX;
-                place = syntax.stopPlace();
+                faultAt = syntax.stopPlace();
             } else {
                 model = target;
                 model.clear();
@@ -1110,7 +1103,7 @@ public final class OptimumHouse {
 
         private boolean fail(int kind, int token) {
             faultKind = kind;
-            place = syntax.start(token);
+            faultAt = syntax.start(token);
             return false;
         }
 
@@ -1290,12 +1283,12 @@ public final class OptimumHouse {
         }
 
         private boolean tellGoal() {
-            boolean most = syntax.kind(at) == Syntax.MAX;
+            boolean max = syntax.kind(at) == Syntax.MAX;
             at++;
             if (!expression(0)) {
                 return false;
             }
-            model.setGoal(sums[0], most);
+            model.setGoal(sums[0], max);
             at++;
             return true;
         }
@@ -1672,7 +1665,7 @@ public final class OptimumHouse {
                 left.load(factors, k * Big.SLOT);
                 right.load(cells, at(k, j));
                 product.product(left, right);
-                into.add(product);
+                into.add(product, 1);
             }
         }
 
@@ -1705,7 +1698,7 @@ public final class OptimumHouse {
             sum.copy(v);
             if (above) {
                 help.put(1);
-                sum.add(help);
+                sum.add(help, 1);
                 sum.turn();
             }
             sum.save(cells, at(count, 0));
@@ -1828,7 +1821,7 @@ public final class OptimumHouse {
             }
             x.load(cells, at(i, j));
             text.clear();
-            text.digits(x);
+            text.number(x, true);
             return true;
         }
 
@@ -2089,7 +2082,7 @@ public final class OptimumHouse {
             x.load(cells, at(i, column));
             y.load(cells, at(row, j));
             right.product(x, y);
-            left.subtract(right);
+            left.add(right, -1);
             left.divide(denominator, quotient, help);
             if (quotient.count > MOST_LIMBS) {
                 return false;
@@ -2121,7 +2114,7 @@ public final class OptimumHouse {
             y.load(cells, at(r, 0));
             remainder(y);
             if (above) {
-                y.subtract(denominator);
+                y.add(denominator, -1);
             } else {
                 y.turn();
             }
@@ -2154,6 +2147,10 @@ public final class OptimumHouse {
             System.arraycopy(free, 0, kept, 3 + MOST_ROWS, MOST_PLACES + 1);
             System.arraycopy(cells, 0, kept, KEPT_HEAD, used);
             return kept;
+        }
+
+        int rowsKept(int[] kept) {
+            return kept == null || kept.length < KEPT_HEAD ? 0 : kept[0];
         }
 
         void restore(int[] kept) {
@@ -2227,10 +2224,11 @@ public final class OptimumHouse {
             into.load(point, DENOMINATOR * Big.SLOT);
         }
 
-        void writeLeaf(String word, Dictionary dictionary, int variables, int source) {
-            trees.word(word);
+        /** Writes the LEAF of a row or goal: bound of z, else farkas. */
+        void writeLeaf(Dictionary dictionary, int variables, int source) {
+            trees.word(source == Dictionary.GOAL_Z ? "bound" : "farkas");
             dictionary.denominator(first);
-            trees.number(first);
+            trees.number(first, true);
             for (int k = 1; k <= dictionary.rowCount(); k++) {
                 dictionary.multiplier(source, variables + k, first);
                 writePair(k, first);
@@ -2242,7 +2240,7 @@ public final class OptimumHouse {
         void writeCut(Dictionary dictionary, int variables, int r, Rows rows) {
             trees.word("cut");
             dictionary.denominator(first);
-            trees.number(first);
+            trees.number(first, true);
             rows.clearFactors();
             for (int k = 1; k <= dictionary.rowCount(); k++) {
                 dictionary.multiplier(r, variables + k, first);
@@ -2257,14 +2255,14 @@ public final class OptimumHouse {
             if (number.sign != 0) {
                 trees.count(k);
                 trees.word(":");
-                trees.number(number);
+                trees.number(number, true);
             }
         }
 
         void writeBranch(int variable, Big v) {
             trees.word("branch");
             trees.count(variable);
-            trees.number(v);
+            trees.number(v, true);
         }
 
         /** The greatest number that divides both, in one of the two; none of them is below 0. */
@@ -2280,11 +2278,16 @@ public final class OptimumHouse {
             return high;
         }
 
-        /** Makes upper / lower as small as can be. */
-        private void reduce() {
-            first.copy(upper);
+        /** Makes upper / lower the fraction top / bottom, as small as can be. */
+        private void reduce(Big top, Big bottom, boolean turned) {
+            upper.copy(top);
+            if (turned) {
+                upper.turn();
+            }
+            lower.copy(bottom);
+            first.copy(top);
             first.sign = Math.abs(first.sign);
-            second.copy(lower);
+            second.copy(bottom);
             divisor.copy(common(first, second));
             upper.divide(divisor, quotient, help);
             upper.copy(quotient);
@@ -2292,23 +2295,14 @@ public final class OptimumHouse {
             lower.copy(quotient);
         }
 
-        private void takeFraction(Big top, Big bottom, boolean turned) {
-            upper.copy(top);
-            if (turned) {
-                upper.turn();
-            }
-            lower.copy(bottom);
-            reduce();
-        }
-
         void writeFraction(Big top, Big bottom, boolean turned, Text text) {
-            takeFraction(top, bottom, turned);
+            reduce(top, bottom, turned);
             text.clear();
-            text.digits(upper);
+            text.number(upper, true);
             first.put(1);
             if (lower.compareWith(first) != 0) {
                 text.put('/');
-                text.digits(lower);
+                text.number(lower, false);
             }
         }
 
@@ -2320,27 +2314,27 @@ public final class OptimumHouse {
                 pointNumber(j, second);
                 divisor.copy(common(first, second));
             }
+            whole.word("at");
             for (int j = 1; j <= variables; j++) {
                 pointNumber(j, first);
                 first.divide(divisor, quotient, help);
-                whole.number(quotient);
+                whole.number(quotient, true);
             }
             whole.word("/");
             pointDenominator(first);
             first.divide(divisor, quotient, help);
-            whole.number(quotient);
+            whole.number(quotient, true);
         }
 
         void proveOptimal(Model model) {
             whole.clear();
             whole.word("optimal");
-            pointNumber(0, first);
-            pointDenominator(second);
-            takeFraction(first, second, !model.most);
-            whole.number(upper);
+            pointNumber(0, upper);
+            pointDenominator(lower);
+            reduce(upper, lower, !model.max);
+            whole.number(upper, true);
             whole.word("/");
-            whole.number(lower);
-            whole.word("at");
+            whole.number(lower, true);
             writePoint(model.variables);
             whole.append(trees);
         }
@@ -2355,12 +2349,11 @@ public final class OptimumHouse {
             takePoint(dictionary, model.variables);
             whole.clear();
             whole.word("unbounded");
-            whole.word("at");
             writePoint(model.variables);
             whole.word("along");
             for (int j = 1; j <= model.variables; j++) {
                 dictionary.rayNumber(j, first);
-                whole.number(first);
+                whole.number(first, true);
             }
             whole.word("/");
             whole.word("1");
@@ -2375,6 +2368,14 @@ public final class OptimumHouse {
         private static final int UNBOUNDED = 4;
         private static final int TOO_BIG = 5;
         private static final int TOO_MUCH = 6;
+        /** What is to be done next. */
+        private static final int CHOOSE = 0;
+        private static final int PIVOT = 1;
+        private static final int JUDGE = 2;
+        private static final int LEAF = 3;
+        private static final int CUT = 4;
+        private static final int BRANCH = 5;
+        private static final int SECOND_CHILD = 6;
         private static final int MOST_NODES = 1000;
         private static final int MOST_TURNS = 1000000;
 
@@ -2397,7 +2398,9 @@ public final class OptimumHouse {
         private int bests;
         private int cuts;
         private int phase;
-        private boolean isChosen;
+        private int next;
+        /** The row or goal that a LEAF, CUT or BRANCH comes from. */
+        private int source;
 
         void start(Model told, int cutsAllowed) {
             model = told;
@@ -2412,7 +2415,7 @@ public final class OptimumHouse {
             bests = 0;
             cuts = 0;
             phase = dictionary.hasHelper() ? 1 : 2;
-            isChosen = false;
+            next = CHOOSE;
         }
 
         long rowNumber(int k, int j) {
@@ -2464,30 +2467,52 @@ public final class OptimumHouse {
             }
             prover.pointNumber(j, left);
             prover.pointDenominator(right);
-            prover.writeFraction(left, right, j == 0 && !model.most, text);
+            prover.writeFraction(left, right, j == 0 && !model.max, text);
             return true;
         }
 
+        /** Up to so many PIVOTS, and on to the next one or the end; answers how many were done. */
         int run(int most) {
             int done = 0;
             for (int i = 0; i < MOST_TURNS && status == GOING; i++) {
-                if (!isChosen) {
-                    advance();
-                } else if (done >= most) {
-                    return done;
-                } else if (dictionary.pivot()) {
-                    isChosen = false;
-                    pivots++;
-                    done++;
-                } else {
-                    status = TOO_BIG;
+                switch (next) {
+                    case PIVOT:
+                        if (done >= most) {
+                            return done;
+                        }
+                        if (dictionary.pivot()) {
+                            done++;
+                            pivots++;
+                            next = CHOOSE;
+                        } else {
+                            status = TOO_BIG;
+                        }
+                        break;
+                    case JUDGE:
+                        judge();
+                        break;
+                    case LEAF:
+                        leaf();
+                        break;
+                    case CUT:
+                        cut();
+                        break;
+                    case BRANCH:
+                        branch();
+                        break;
+                    case SECOND_CHILD:
+                        beginSecondChild();
+                        break;
+                    default:
+                        choose();
+                        break;
                 }
             }
-            writeProof();
             return done;
         }
 
-        private void writeProof() {
+        /** Writes the proof when the work has just ended with one. */
+        void prove() {
             if (model == null || prover.proofLength() > 0) {
                 return;
             }
@@ -2504,7 +2529,7 @@ public final class OptimumHouse {
         }
 
         /** Chooses the next PIVOT, or ends the phase or the NODE that has none. */
-        private void advance() {
+        private void choose() {
             int choice;
             switch (phase) {
                 case 1:
@@ -2518,23 +2543,25 @@ public final class OptimumHouse {
                     break;
             }
             if (choice == Dictionary.STEP) {
-                isChosen = true;
+                next = PIVOT;
             } else if (phase == 1) {
                 endPhaseOne();
             } else if (choice == Dictionary.NO_STEP) {
-                judge();
+                next = JUDGE;
             } else if (phase == 2) {
                 status = UNBOUNDED;
             } else {
-                leaf("farkas", dictionary.stuckRow());
+                source = dictionary.stuckRow();
+                next = LEAF;
             }
         }
 
         private void endPhaseOne() {
             if (dictionary.sign(Dictionary.GOAL_W, 0) < 0) {
-                leaf("farkas", Dictionary.GOAL_W);
+                source = Dictionary.GOAL_W;
+                next = LEAF;
             } else if (dictionary.helperIsBasic() && dictionary.chooseHelperOut() == Dictionary.STEP) {
-                isChosen = true;
+                next = PIVOT;
             } else {
                 dictionary.dropHelper();
                 phase = 2;
@@ -2543,24 +2570,20 @@ public final class OptimumHouse {
 
         /** What becomes of a NODE whose dictionary has its best POINT. */
         private void judge() {
-            if (model == null) {
-                return;
-            }
+            source = Dictionary.GOAL_Z;
+            next = LEAF;
             if (bests > 0 && !isAboveBest()) {
-                leaf("bound", Dictionary.GOAL_Z);
                 return;
             }
             int r = dictionary.brokenRow(model);
             if (r == 0) {
                 bests++;
                 prover.takePoint(dictionary, model.variables);
-                leaf("bound", Dictionary.GOAL_Z);
-            } else if (model.isAllWhole() && cuts < allowed) {
-                // All cuts stand at the way's beginning, so those made are those of every way.
-                cut(r);
-            } else {
-                branch(r);
+                return;
             }
+            source = r;
+            // All cuts stand at the beginning of a way, so those made are those of every way.
+            next = model.isAllWhole() && cuts < allowed ? CUT : BRANCH;
         }
 
         private boolean isAboveBest() {
@@ -2577,72 +2600,70 @@ public final class OptimumHouse {
             return left.compareWith(right) > 0;
         }
 
-        private void leaf(String word, int source) {
-            prover.writeLeaf(word, dictionary, model.variables, source);
+        private void leaf() {
+            prover.writeLeaf(dictionary, model.variables, source);
             if (prover.isTreeOver()) {
                 status = TOO_MUCH;
             } else if (waiting > 0) {
-                beginSecondChild();
+                next = SECOND_CHILD;
             } else {
                 status = bests > 0 ? OPTIMAL : INFEASIBLE;
             }
         }
 
-        private boolean canBeginChild() {
-            if (prover.isTreeOver() || rows.isFull() || nodes >= MOST_NODES) {
+        /** Counts a child of a NODE with so many rows; false if it is TOO MUCH. */
+        private boolean countChild(int rowsOfParent) {
+            if (prover.isTreeOver() || rowsOfParent >= MOST_ROWS || nodes >= MOST_NODES) {
                 status = TOO_MUCH;
                 return false;
             }
+            nodes++;
+            phase = 3;
+            next = CHOOSE;
             return true;
         }
 
-        private void cut(int r) {
-            prover.writeCut(dictionary, model.variables, r, rows);
-            if (!canBeginChild()) {
+        private void cut() {
+            prover.writeCut(dictionary, model.variables, source, rows);
+            if (!countChild(rows.count())) {
                 return;
             }
+            cuts++;
             dictionary.denominator(bottom);
             rows.addCut(bottom);
-            dictionary.addCut(r);
-            cuts++;
-            nodes++;
-            phase = 3;
+            dictionary.addCut(source);
         }
 
-        private void branch(int r) {
-            int variable = dictionary.numberAt(r);
-            dictionary.floor(r, top);
+        private void branch() {
+            int variable = dictionary.numberAt(source);
+            dictionary.floor(source, top);
             prover.writeBranch(variable, top);
-            if (!canBeginChild()) {
+            if (!countChild(rows.count())) {
                 return;
             }
             kept[waiting] = dictionary.keep(kept[waiting]);
-            broken[waiting] = r;
+            broken[waiting] = source;
             waiting++;
             rows.addLimit(variable, top, false);
-            dictionary.addLimit(r, false);
-            nodes++;
-            phase = 3;
+            dictionary.addLimit(source, false);
         }
 
         private void beginSecondChild() {
-            if (nodes >= MOST_NODES) {
-                status = TOO_MUCH;
+            int[] parent = kept[waiting - 1];
+            if (!countChild(dictionary.rowsKept(parent))) {
                 return;
             }
             waiting--;
-            dictionary.restore(kept[waiting]);
-            int r = broken[waiting];
+            dictionary.restore(parent);
             rows.keep(dictionary.rowCount());
-            dictionary.floor(r, top);
-            rows.addLimit(dictionary.numberAt(r), top, true);
-            dictionary.addLimit(r, true);
-            nodes++;
-            phase = 3;
+            source = broken[waiting];
+            dictionary.floor(source, top);
+            rows.addLimit(dictionary.numberAt(source), top, true);
+            dictionary.addLimit(source, true);
         }
     }
 
-    /** The tokens of a proof's text, one after the other, and whether they make a PROOF. */
+    /** The tokens of a proof's text, and whether they make a PROOF. */
     private static final class ProofReader {
         static final int END = 0;
         static final int BAD = 1;
@@ -2660,192 +2681,249 @@ public final class OptimumHouse {
         static final int CUT = 13;
         static final int BOUND = 14;
         static final int FARKAS = 15;
+        private static final int KINDS = 16;
         private static final int MOST_DIGITS = 60;
         private static final int MOST_COUNT = 1000000;
 
         private Text text;
-        private int behind;
-        private int kind;
-        private int start;
+        /** Of each token its first byte's place times KINDS, and its kind; they grow as need be. */
+        private int[] marks = new int[256];
+        private int tokens;
+        private int at;
 
-        /** Stands at the first token of the text. */
+        /** Takes the tokens of a text, up to the first that is none; stands at the first. */
         void open(Text given) {
             text = given;
-            behind = 0;
-            advance();
+            tokens = 0;
+            int length = given.length();
+            int i = 0;
+            for (int turn = 0; turn < TAPE_BYTES && i < length; turn++) {
+                i = scanOne(i, length);
+                if (tokens > 0 && marks[tokens - 1] % KINDS == BAD) {
+                    i = length;
+                }
+            }
+            mark(END, length);
+            at = 0;
+        }
+
+        /** Stands at the first token again. */
+        void rewind() {
+            at = 0;
         }
 
         int kind() {
-            return kind;
+            return at < tokens ? marks[at] % KINDS : END;
         }
 
         int start() {
-            return start;
-        }
-
-        /** The NUMBER that is there; goes on behind it. */
-        void takeNumber(Big into) {
-            boolean below = text.byteAt(start) == '-';
-            into.read(text, below ? start + 1 : start, behind);
-            if (below) {
-                into.turn();
-            }
-            advance();
-        }
-
-        /** The NUMBER that is there, if it is 0 .. 1,000,000, else NONE; goes on behind it. */
-        int takeCount() {
-            int value = 0;
-            for (int i = start; i < behind && value >= 0; i++) {
-                int digit = text.byteAt(i) - '0';
-                value = digit < 0 || value > MOST_COUNT ? NONE : 10 * value + digit;
-            }
-            advance();
-            return value > MOST_COUNT ? NONE : value;
+            return at < tokens ? marks[at] / KINDS : NONE;
         }
 
         void advance() {
-            int length = text == null ? 0 : text.length();
-            start = behind;
-            while (start < length && (text.byteAt(start) == BLANK || text.byteAt(start) == NEW_LINE)) {
-                start++;
-            }
-            if (start >= length) {
-                behind = length;
-                kind = END;
-                return;
-            }
-            int value = text.byteAt(start);
-            behind = start + 1;
-            if (Syntax.isLetter(value)) {
-                scanWord(length);
-            } else if (value == '-' || Syntax.isDigit(value)) {
-                scanNumber(length);
-            } else {
-                kind = value == '/' ? SLASH : value == ':' ? COLON : value == ';' ? SEMICOLON : BAD;
-            }
+            at++;
         }
 
-        private void scanWord(int length) {
+        private void mark(int kind, int start) {
+            if (tokens >= marks.length) {
+                marks = Arrays.copyOf(marks, 2 * marks.length);
+            }
+            marks[tokens] = start * KINDS + kind;
+            tokens++;
+        }
+
+        /** Takes the blank or the token at i; answers the place behind it, which is beyond i. */
+        private int scanOne(int i, int length) {
+            int value = text.byteAt(i);
+            if (value == BLANK || value == NEW_LINE) {
+                return i + 1;
+            }
+            if (Syntax.isLetter(value)) {
+                return scanWord(i, length);
+            }
+            if (value == '-' || Syntax.isDigit(value)) {
+                return scanNumber(i, length);
+            }
+            mark(value == '/' ? SLASH : value == ':' ? COLON : value == ';' ? SEMICOLON : BAD, i);
+            return i + 1;
+        }
+
+        private int scanWord(int first, int length) {
+            int behind = first;
             while (behind < length && Syntax.isLetter(text.byteAt(behind))) {
                 behind++;
             }
-            kind = WORD;
-            takeIf("optimal", OPTIMAL);
-            takeIf("infeasible", INFEASIBLE);
-            takeIf("unbounded", UNBOUNDED);
-            takeIf("at", AT);
-            takeIf("along", ALONG);
-            takeIf("branch", BRANCH);
-            takeIf("cut", CUT);
-            takeIf("bound", BOUND);
-            takeIf("farkas", FARKAS);
+            int kind = WORD;
+            for (int k = OPTIMAL; k <= FARKAS; k++) {
+                if (isWord(first, behind, word(k))) {
+                    kind = k;
+                }
+            }
+            mark(kind, first);
+            return behind;
         }
 
-        private void takeIf(String word, int kindOfWord) {
-            boolean same = word.length() == behind - start;
-            for (int i = 0; i < word.length() && same; i++) {
-                same = text.byteAt(start + i) == word.charAt(i);
-            }
-            if (same) {
-                kind = kindOfWord;
+        private static String word(int kind) {
+            switch (kind) {
+                case OPTIMAL:
+                    return "optimal";
+                case INFEASIBLE:
+                    return "infeasible";
+                case UNBOUNDED:
+                    return "unbounded";
+                case AT:
+                    return "at";
+                case ALONG:
+                    return "along";
+                case BRANCH:
+                    return "branch";
+                case CUT:
+                    return "cut";
+                case BOUND:
+                    return "bound";
+                default:
+                    return "farkas";
             }
         }
 
-        private void scanNumber(int length) {
-            boolean below = text.byteAt(start) == '-';
+        private boolean isWord(int first, int behind, String word) {
+            if (word.length() != behind - first) {
+                return false;
+            }
+            for (int i = 0; i < word.length(); i++) {
+                if (text.byteAt(first + i) != word.charAt(i)) {
+                    return false;
+                }
+            }
+            return true;
+        }
+
+        private int scanNumber(int first, int length) {
+            boolean below = text.byteAt(first) == '-';
+            int digits = below ? first + 1 : first;
+            int behind = behindDigits(digits, length);
+            boolean bad = behind == digits || behind - digits > MOST_DIGITS
+                || below && !hasMoreThanNoughts(digits, behind);
+            mark(bad ? BAD : NUMBER, first);
+            return Math.max(behind, first + 1);
+        }
+
+        private int behindDigits(int first, int length) {
+            int behind = first;
             while (behind < length && Syntax.isDigit(text.byteAt(behind))) {
                 behind++;
             }
-            int digits = behind - start - (below ? 1 : 0);
-            boolean bad = digits < 1 || digits > MOST_DIGITS || below && !hasMoreThanNoughts();
-            kind = bad ? BAD : NUMBER;
+            return behind;
         }
 
-        private boolean hasMoreThanNoughts() {
-            for (int i = start; i < behind; i++) {
-                int value = text.byteAt(i);
-                if (value > '0' && value <= '9') {
+        private boolean hasMoreThanNoughts(int first, int behind) {
+            for (int i = first; i < behind; i++) {
+                if (text.byteAt(i) != '0') {
                     return true;
                 }
             }
             return false;
         }
 
-        private boolean need(int wanted) {
-            if (kind != wanted) {
+        /** The NUMBER that is there; goes on behind it. */
+        void takeNumber(Big into) {
+            int first = start();
+            boolean below = text.byteAt(first) == '-';
+            int digits = below ? first + 1 : first;
+            into.read(text, digits, behindDigits(digits, text.length()));
+            if (below) {
+                into.turn();
+            }
+            at++;
+        }
+
+        /** The NUMBER that is there, if it is 0 .. 1,000,000, else NONE; goes on behind it. */
+        int takeCount() {
+            int first = start();
+            int behind = behindDigits(first, text.length());
+            int value = behind > first ? 0 : NONE;
+            for (int i = first; i < behind && value >= 0; i++) {
+                value = 10 * value + text.byteAt(i) - '0';
+                value = value > MOST_COUNT ? NONE : value;
+            }
+            at++;
+            return value;
+        }
+
+        private boolean pass(int kind) {
+            if (kind() != kind) {
                 return false;
             }
-            advance();
+            at++;
             return true;
         }
 
-        /** A NUMBER that says over what, so it must be above 0. */
-        private boolean needAbove() {
-            if (kind == NUMBER && (text.byteAt(start) == '-' || !hasMoreThanNoughts())) {
+        /** Passes a NUMBER that says over what, so it must be above 0. */
+        private boolean passAbove() {
+            if (kind() != NUMBER) {
                 return false;
             }
-            return need(NUMBER);
+            int first = start();
+            int behind = behindDigits(first, text.length());
+            if (!hasMoreThanNoughts(first, behind)) {
+                return false;
+            }
+            at++;
+            return true;
         }
 
         /** Whether all of it is one PROOF; if not, start() tells where that shows. */
         boolean isProof(int variables) {
-            switch (kind) {
-                case OPTIMAL:
-                    advance();
-                    return need(NUMBER) && need(SLASH) && needAbove() && need(AT)
-                        && needPoint(variables) && needTree() && kind == END;
-                case INFEASIBLE:
-                    advance();
-                    return needTree() && kind == END;
-                case UNBOUNDED:
-                    advance();
-                    return need(AT) && needPoint(variables) && need(ALONG)
-                        && needPoint(variables) && kind == END;
-                default:
-                    return false;
+            int head = kind();
+            if (head != OPTIMAL && head != INFEASIBLE && head != UNBOUNDED) {
+                return false;
             }
+            at++;
+            if (head == OPTIMAL && !(pass(NUMBER) && pass(SLASH) && passAbove())) {
+                return false;
+            }
+            if (head != INFEASIBLE && !(pass(AT) && passPoint(variables))) {
+                return false;
+            }
+            if (head == UNBOUNDED) {
+                return pass(ALONG) && passPoint(variables) && kind() == END;
+            }
+            return passTree() && kind() == END;
         }
 
-        private boolean needPoint(int variables) {
+        private boolean passPoint(int variables) {
             for (int j = 1; j <= variables; j++) {
-                if (!need(NUMBER)) {
+                if (!pass(NUMBER)) {
                     return false;
                 }
             }
-            return need(SLASH) && needAbove();
+            return pass(SLASH) && passAbove();
         }
 
-        private boolean needTree() {
+        /** Passes one TREE, without recursion: due are the TREES that must still come. */
+        private boolean passTree() {
             int due = 1;
             for (int i = 0; i <= TAPE_BYTES && due > 0; i++) {
-                int word = kind;
+                int word = kind();
                 if (word < BRANCH || word > FARKAS) {
                     return false;
                 }
-                advance();
-                if (word == BRANCH) {
-                    if (!need(NUMBER) || !need(NUMBER)) {
-                        return false;
-                    }
-                    due++;
-                } else {
-                    if (!needAbove() || !needPairs()) {
-                        return false;
-                    }
-                    due -= word == CUT ? 0 : 1;
+                at++;
+                if (!(word == BRANCH ? pass(NUMBER) && pass(NUMBER) : passAbove() && passPairs())) {
+                    return false;
                 }
+                due += word == BRANCH ? 1 : word == CUT ? 0 : -1;
             }
             return due == 0;
         }
 
-        private boolean needPairs() {
-            for (int i = 0; i <= TAPE_BYTES && kind == NUMBER; i++) {
-                if (!need(NUMBER) || !need(COLON) || !need(NUMBER)) {
+        private boolean passPairs() {
+            for (int i = 0; i <= TAPE_BYTES && pass(NUMBER); i++) {
+                if (!pass(COLON) || !pass(NUMBER)) {
                     return false;
                 }
             }
-            return need(SEMICOLON);
+            return pass(SEMICOLON);
         }
     }
 
@@ -2878,16 +2956,16 @@ public final class OptimumHouse {
         private int waiting;
         private Model model;
         private int faultKind;
-        private int place;
+        private int faultAt;
 
         int faultPlace() {
-            return place;
+            return faultAt;
         }
 
         int hold(Text text, Model against) {
             model = against;
             faultKind = 0;
-            place = NONE;
+            faultAt = NONE;
             reader.open(text);
             if (!reader.isProof(model.variables)) {
                 fail(FAULT_TEXT, reader.start());
@@ -2895,31 +2973,37 @@ public final class OptimumHouse {
             }
             rows.take(model);
             waiting = 0;
-            reader.open(text);
-            if (reader.kind() == ProofReader.OPTIMAL) {
-                holdOptimal();
-            } else if (reader.kind() == ProofReader.INFEASIBLE) {
-                reader.advance();
-                holdTrees(false);
-            } else {
+            reader.rewind();
+            int head = reader.kind();
+            if (head == ProofReader.UNBOUNDED) {
                 holdUnbounded();
+                return faultKind;
+            }
+            if (head == ProofReader.OPTIMAL) {
+                holdOptimal();
+            } else {
+                reader.advance();
+            }
+            if (faultKind == 0) {
+                holdTrees(head == ProofReader.OPTIMAL);
             }
             return faultKind;
         }
 
         private boolean fail(int kind, int where) {
             faultKind = kind;
-            place = where;
+            faultAt = where;
             return false;
         }
 
+        /** The VALUE and the POINT of an optimal; comes to stand at its TREE. */
         private boolean holdOptimal() {
             int head = reader.start();
             reader.advance();
             reader.takeNumber(valueTop);
             reader.advance();
             reader.takeNumber(valueBottom);
-            if (!model.most) {
+            if (!model.max) {
                 valueTop.turn();
             }
             int pointPlace = reader.start();
@@ -2927,10 +3011,7 @@ public final class OptimumHouse {
             if (!isValue()) {
                 return fail(FAULT_VALUE, head);
             }
-            if (!isPoint(true)) {
-                return fail(FAULT_POINT, pointPlace);
-            }
-            return holdTrees(true);
+            return isPoint(true) || fail(FAULT_POINT, pointPlace);
         }
 
         private boolean holdUnbounded() {
@@ -2964,7 +3045,7 @@ public final class OptimumHouse {
                 number.load(point, j * Big.SLOT);
                 rows.number(k, j, part);
                 product.product(number, part);
-                sum.add(product);
+                sum.add(product, 1);
             }
         }
 
@@ -2978,7 +3059,7 @@ public final class OptimumHouse {
         private boolean isValue() {
             sumAt(0);
             scaleBound(0);
-            sum.add(product);
+            sum.add(product, 1);
             product.product(sum, valueBottom);
             number.load(point, 0);
             part.product(number, valueTop);
@@ -3129,7 +3210,7 @@ public final class OptimumHouse {
             rows.combine(0, sum);
             rows.number(0, 0, part);
             product.product(q, part);
-            sum.add(product);
+            sum.add(product, 1);
             if (model.isGoalWhole()) {
                 sum.divide(q, part, help);
                 product.product(part, valueBottom);
