@@ -1076,6 +1076,7 @@ public final class OptimumHouse {
             return faultAt;
         }
 
+        /** 0, and the target is the text's model, or the text's FAULT. */
         int read(Text text, Model target) {
             faultKind = 0;
             faultAt = NONE;
@@ -1088,15 +1089,34 @@ public final class OptimumHouse {
             if (!syntax.isProgram()) {
                 faultKind = FAULT_SYNTAX;
                 faultAt = syntax.stopPlace();
-            } else {
-                model = target;
-                model.clear();
-                known = 0;
-                sets = 0;
-                pars = 0;
-                looked = 0;
-                at = 0;
-                program();
+                return faultKind;
+            }
+            model = target;
+            model.clear();
+            known = 0;
+            sets = 0;
+            pars = 0;
+            looked = 0;
+            at = 0;
+            boolean fine = true;
+            for (int i = 0; i < syntax.tokenCount() && fine && syntax.kind(at) != Syntax.END; i++) {
+                switch (syntax.kind(at)) {
+                    case Syntax.SET:
+                        fine = tellSet();
+                        break;
+                    case Syntax.PAR:
+                        fine = tellPar();
+                        break;
+                    case Syntax.VAR:
+                        fine = tellVar();
+                        break;
+                    case Syntax.ROW:
+                        fine = tellRow();
+                        break;
+                    default:
+                        fine = tellGoal();
+                        break;
+                }
             }
             return faultKind;
         }
@@ -1105,30 +1125,6 @@ public final class OptimumHouse {
             faultKind = kind;
             faultAt = syntax.start(token);
             return false;
-        }
-
-        private boolean program() {
-            for (int i = 0; i < syntax.tokenCount(); i++) {
-                int kind = syntax.kind(at);
-                boolean fine;
-                if (kind == Syntax.SET) {
-                    fine = tellSet();
-                } else if (kind == Syntax.PAR) {
-                    fine = tellPar();
-                } else if (kind == Syntax.VAR) {
-                    fine = tellVar();
-                } else if (kind == Syntax.ROW) {
-                    fine = tellRow();
-                } else if (kind == Syntax.MAX || kind == Syntax.MIN) {
-                    fine = tellGoal();
-                } else {
-                    return true;
-                }
-                if (!fine) {
-                    return false;
-                }
-            }
-            return true;
         }
 
         private int find(int token) {
@@ -1575,7 +1571,7 @@ public final class OptimumHouse {
             at++;
             if (syntax.kind(at) == Syntax.NUMBER) {
                 at++;
-                return number(at - 1);
+                return (int) syntax.value(at - 1);
             }
             int symbol = find(at);
             if (!isSort(symbol, Syntax.NAME)) {
@@ -1588,7 +1584,7 @@ public final class OptimumHouse {
                 return fact(symbol, LOW);
             }
             at += 2;
-            int step = number(at - 1);
+            int step = (int) syntax.value(at - 1);
             return fact(symbol, LOW) + (kind == Syntax.PLUS ? step : -step);
         }
     }

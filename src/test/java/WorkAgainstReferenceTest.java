@@ -8,7 +8,7 @@ public final class WorkAgainstReferenceTest {
     }
 
     public static void main(String[] args) {
-        int rounds = args.length > 0 ? Integer.parseInt(args[0]) : 1500;
+        int rounds = args.length > 0 ? Integer.parseInt(args[0]) : 400;
         long seed = args.length > 1 ? Long.parseLong(args[1]) : 1;
         for (int i = 0; i < rounds && !Kit.failed(); i++) {
             one(Kit.random(seed, i), "seed " + seed + " round " + i);
