@@ -1658,10 +1658,13 @@ public final class OptimumHouse {
         void combine(int j, Big into) {
             into.put(0);
             for (int k = 1; k <= count; k++) {
-                left.load(factors, k * Big.SLOT);
-                right.load(cells, at(k, j));
-                product.product(left, right);
-                into.add(product, 1);
+                // Most factors and many coefficients are 0, and a check may have thousands of sums.
+                if (factors[k * Big.SLOT] != 0 && cells[at(k, j)] != 0) {
+                    left.load(factors, k * Big.SLOT);
+                    right.load(cells, at(k, j));
+                    product.product(left, right);
+                    into.add(product, 1);
+                }
             }
         }
 
@@ -2048,35 +2051,36 @@ public final class OptimumHouse {
             return true;
         }
 
+        /** Row or goal i, but not the pivot's own; numbers of one limb are worked as longs. */
         private boolean pivotRow(int i, int turn) {
-            boolean smallPivot = isSmall(at(row, column)) && isSmall(at(DENOMINATOR, 0))
-                && isSmall(at(i, column));
+            int own = at(i, 0);
+            int leadRow = at(row, 0);
+            int beside = column * Big.SLOT;
+            long by = small(at(DENOMINATOR, 0));
+            long pivot = small(leadRow + beside);
+            long times = small(own + beside);
+            boolean isSmallPivot = by > 0 && isSmall(at(DENOMINATOR, 0)) && isSmall(leadRow + beside)
+                && isSmall(own + beside);
             for (int j = 0; j <= places; j++) {
+                int cell = own + j * Big.SLOT;
+                int above = leadRow + j * Big.SLOT;
                 if (j == column) {
-                    Big.move(cells, other, at(i, j), -turn);
-                } else if (smallPivot && isSmall(at(i, j)) && isSmall(at(row, j))) {
-                    pivotSmall(i, j, turn);
-                } else if (!pivotGreat(i, j, turn)) {
+                    Big.move(cells, other, cell, -turn);
+                } else if (isSmallPivot && isSmall(cell) && isSmall(above)) {
+                    long number = small(cell) * pivot - times * small(above);
+                    Big.store(other, cell, turn * (number / by));
+                } else if (!pivotGreat(cell, own + beside, above, turn)) {
                     return false;
                 }
             }
             return true;
         }
 
-        private void pivotSmall(int i, int j, int turn) {
-            long by = small(at(DENOMINATOR, 0));
-            if (by <= 0) {
-                return;
-            }
-            long number = small(at(i, j)) * small(at(row, column)) - small(at(i, column)) * small(at(row, j));
-            Big.store(other, at(i, j), turn * (number / by));
-        }
-
-        private boolean pivotGreat(int i, int j, int turn) {
-            x.load(cells, at(i, j));
+        private boolean pivotGreat(int cell, int beside, int above, int turn) {
+            x.load(cells, cell);
             left.product(x, lead);
-            x.load(cells, at(i, column));
-            y.load(cells, at(row, j));
+            x.load(cells, beside);
+            y.load(cells, above);
             right.product(x, y);
             left.add(right, -1);
             left.divide(denominator, quotient, help);
@@ -2084,7 +2088,7 @@ public final class OptimumHouse {
                 return false;
             }
             quotient.sign *= turn;
-            quotient.save(other, at(i, j));
+            quotient.save(other, cell);
             return true;
         }
 
