@@ -18,14 +18,11 @@ public final class CheckTest {
     }
 
     private static void fine(String text) {
-        Kit.due("check of " + text, Kit.checking(house, text), "0");
+        Kit.holds(house, text);
     }
 
-    /** The text has a ^ ahead of the token where the FAULT is. */
     private static void fault(int kind, String text) {
-        int place = text.indexOf('^');
-        String plain = text.substring(0, place) + text.substring(place + 1);
-        Kit.due("check of " + plain, Kit.checking(house, plain), kind + " at " + place);
+        Kit.breaks(house, kind, text);
     }
 
     public static void main(String[] args) {

@@ -1,10 +1,14 @@
 import java.nio.charset.StandardCharsets;
+import java.util.HashSet;
 import java.util.Random;
+import java.util.Set;
 
 /** What all tests use: texts on and off the tape, and the count of answers that are not due. */
 final class Kit {
     private static int failures;
     private static int asked;
+    private static final Set<String> SENTENCES = new HashSet<>();
+    private static String sentence = "";
 
     private Kit() {
     }
@@ -27,9 +31,18 @@ final class Kit {
         }
     }
 
+    /** The sentence of the document that the answers from here on are held against. */
+    static void says(String words) {
+        SENTENCES.add(words);
+        sentence = words;
+    }
+
     static void fail(String message) {
         failures++;
         if (failures <= 20) {
+            if (!sentence.isEmpty()) {
+                System.out.println("the document says: " + sentence);
+            }
             System.out.println("  " + (message.length() > 1500 ? message.substring(0, 1500) + " .." : message));
         }
     }
@@ -44,7 +57,8 @@ final class Kit {
     }
 
     static void done() {
-        System.out.println(asked + " answers asked, " + failures + " not as due");
+        String of = SENTENCES.isEmpty() ? "" : " of " + SENTENCES.size() + " sentences";
+        System.out.println(asked + " answers" + of + " asked, " + failures + " not as due");
         System.exit(failures > 0 || asked == 0 ? 1 : 0);
     }
 
@@ -92,6 +106,31 @@ final class Kit {
 
     static String checking(OptimumHouse house, String text) {
         return found(house, check(house, text));
+    }
+
+    /** A text without FAULT. */
+    static void fine(String text) {
+        due("tell of " + text, telling(text), "0");
+    }
+
+    /** A text with a FAULT; there is a ^ ahead of the token where it is. */
+    static void faulty(int kind, String text) {
+        due("tell of " + unmarked(text), telling(unmarked(text)), kind + " at " + text.indexOf('^'));
+    }
+
+    /** A proof without FAULT. */
+    static void holds(OptimumHouse house, String text) {
+        due("check of " + text, checking(house, text), "0");
+    }
+
+    /** A proof with a FAULT; there is a ^ ahead of the token where it is. */
+    static void breaks(OptimumHouse house, int kind, String text) {
+        due("check of " + unmarked(text), checking(house, unmarked(text)), kind + " at " + text.indexOf('^'));
+    }
+
+    private static String unmarked(String text) {
+        int place = text.indexOf('^');
+        return text.substring(0, place) + text.substring(place + 1);
     }
 
     private static String found(OptimumHouse house, int answer) {

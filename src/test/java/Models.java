@@ -40,7 +40,7 @@ final class Models {
     }
 
     /** Dense rows of great numbers, all of them tight at one point: determinants of up to 57 digits. */
-    private static ReferenceWork.Model huge(Random random) {
+    static ReferenceWork.Model huge(Random random) {
         ReferenceWork.Model model = new ReferenceWork.Model();
         model.n = 9 + random.nextInt(4);
         model.max = true;

@@ -3,15 +3,12 @@ public final class TellTest {
     private TellTest() {
     }
 
-    /** The text has a ^ ahead of the token where the FAULT is. */
     private static void fault(int kind, String text) {
-        int place = text.indexOf('^');
-        String plain = text.substring(0, place) + text.substring(place + 1);
-        Kit.due("tell of " + plain, Kit.telling(plain), kind + " at " + place);
+        Kit.faulty(kind, text);
     }
 
     private static void fine(String text) {
-        Kit.due("tell of " + text, Kit.telling(text), "0");
+        Kit.fine(text);
     }
 
     private static String times(String text, int many) {
