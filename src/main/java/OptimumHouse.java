@@ -9,6 +9,8 @@ public final class OptimumHouse {
     public static final int NONE = -1;
 
     private static final int TAPE_BYTES = 30000;
+    /** More than a fraction of two numbers below 10 to the power 54 has. */
+    private static final int LINE_BYTES = 120;
     private static final int MOST_VARIABLES = 12;
     private static final int MOST_ROWS = 40;
     private static final int BLANK = 32;
@@ -16,21 +18,25 @@ public final class OptimumHouse {
 
     private final Text tape;
     private final Text line;
+    private final Teller teller;
+    private final Search search;
+    private final Checker checker;
     private Model model;
     private Model spare;
     private boolean hasModel;
-    private Teller teller;
-    private Search search;
-    private Checker checker;
     private boolean begun;
     private int faultKind;
     private int faultPlace;
 
     public OptimumHouse() {
+        // All that calls will ever need is made here, at its full size, so that calls make nothing.
         tape = new Text(TAPE_BYTES);
-        line = new Text(TAPE_BYTES);
+        line = new Text(LINE_BYTES);
         model = new Model();
         spare = new Model();
+        teller = new Teller();
+        search = new Search();
+        checker = new Checker();
         faultPlace = NONE;
     }
 
@@ -51,9 +57,6 @@ public final class OptimumHouse {
     }
 
     public int tell() {
-        if (teller == null) {
-            teller = new Teller();
-        }
         faultKind = teller.read(tape, spare);
         faultPlace = teller.faultPlace();
         tape.clear();
@@ -101,7 +104,7 @@ public final class OptimumHouse {
         if (!hasModel || j < 0 || j > model.variables || k < 0) {
             return 0;
         }
-        if (begun && search != null) {
+        if (begun) {
             return search.rowNumber(k, j);
         }
         return k <= model.rows ? model.number(k, j) : 0;
@@ -110,9 +113,6 @@ public final class OptimumHouse {
     public boolean begin(int cuts) {
         if (!hasModel || cuts < 0 || cuts > 20) {
             return false;
-        }
-        if (search == null) {
-            search = new Search();
         }
         search.start(model, cuts);
         begun = true;
@@ -123,7 +123,7 @@ public final class OptimumHouse {
         if (n < 1 || n > 500) {
             return NONE;
         }
-        if (!begun || search == null) {
+        if (!begun) {
             return 0;
         }
         int done = search.run(n);
@@ -138,29 +138,29 @@ public final class OptimumHouse {
         if (what == 9) {
             return tape.length();
         }
-        return begun && search != null ? search.state(what) : 0;
+        return begun ? search.state(what) : 0;
     }
 
     public int place(int i) {
-        return begun && search != null ? search.dictionary.numberAt(i) : NONE;
+        return begun ? search.dictionary.numberAt(i) : NONE;
     }
 
     public int entry(int i, int j, int k) {
-        if (!begun || search == null || !search.dictionary.write(i, j, line)) {
+        if (!begun || !search.dictionary.write(i, j, line)) {
             return NONE;
         }
         return line.byteAt(k);
     }
 
     public int told(int j, int k) {
-        if (!begun || search == null || !search.writeFraction(j, line)) {
+        if (!begun || !search.writeFraction(j, line)) {
             return NONE;
         }
         return line.byteAt(k);
     }
 
     public int proof(int k) {
-        return begun && search != null && search.isProved() ? search.prover.proofByte(k) : NONE;
+        return begun && search.isProved() ? search.prover.proofByte(k) : NONE;
     }
 
     public int check() {
@@ -170,25 +170,20 @@ public final class OptimumHouse {
             tape.clear();
             return NONE;
         }
-        if (checker == null) {
-            checker = new Checker();
-        }
         faultKind = checker.hold(tape, model);
         faultPlace = checker.faultPlace();
         tape.clear();
         return faultKind;
     }
 
-    /** A row of bytes that grows up to a limit; what would pass the limit is marked and left out. */
+    /** A row of bytes up to a limit; what would pass the limit is marked and left out. */
     private static final class Text {
-        private final int limit;
-        private byte[] bytes;
+        private final byte[] bytes;
         private int length;
         private boolean over;
 
         Text(int limit) {
-            this.limit = limit;
-            bytes = new byte[128];
+            bytes = new byte[Math.max(limit, 0)];
         }
 
         int length() {
@@ -217,12 +212,9 @@ public final class OptimumHouse {
         }
 
         void put(int value) {
-            if (length >= limit) {
+            if (length >= bytes.length) {
                 over = true;
                 return;
-            }
-            if (length >= bytes.length) {
-                bytes = Arrays.copyOf(bytes, Math.min(limit, 2 * bytes.length));
             }
             bytes[length] = (byte) value;
             length++;
@@ -279,15 +271,6 @@ public final class OptimumHouse {
                         put('0' + digit);
                     }
                 }
-            }
-        }
-
-        void append(Text other) {
-            if (length > 0) {
-                put(BLANK);
-            }
-            for (int i = 0; i < other.length; i++) {
-                put(other.bytes[i]);
             }
         }
     }
@@ -1063,7 +1046,7 @@ public final class OptimumHouse {
         private final long[][] products = new long[Syntax.DEPTH + 1][WIDTH];
         private final long[][] factors = new long[Syntax.DEPTH + 1][WIDTH];
         private final long[] leftSide = new long[WIDTH];
-        private Model model;
+        private Model model = new Model();
         private int known;
         private int sets;
         private int pars;
@@ -1715,12 +1698,18 @@ public final class OptimumHouse {
         private static final int MOST_PLACES = MOST_VARIABLES + 1;
         private static final int WIDTH = (MOST_PLACES + 1) * Big.SLOT;
         private static final int MOST_LIMBS = 6;
-        private static final int KEPT_HEAD = 2 + MOST_ROWS + 1 + MOST_PLACES + 1;
+        /** Behind a kept dictionary's cells and NUMBERS: the row that it broke at, its rows, its places. */
+        private static final int KEPT_TAIL = 3;
+        /** One dictionary of each number of rows below the most, as each NODE has one row more. */
+        private static final int MOST_KEPT = MOST_ROWS * (MOST_ROWS - 1) / 2 * (WIDTH + 1)
+            + MOST_ROWS * (3 * WIDTH + MOST_PLACES + KEPT_TAIL);
 
         private int[] cells = new int[(MOST_ROWS + 3) * WIDTH];
         private int[] other = new int[(MOST_ROWS + 3) * WIDTH];
         private final int[] basic = new int[MOST_ROWS + 1];
         private final int[] free = new int[MOST_PLACES + 1];
+        /** The dictionaries of the NODES whose second child waits, one behind the other. */
+        private final int[] kept = new int[MOST_KEPT];
         private final Big lead = new Big();
         private final Big denominator = new Big();
         private final Big x = new Big();
@@ -1735,6 +1724,7 @@ public final class OptimumHouse {
         private boolean hasHelper;
         private int row;
         private int column;
+        private int keptEnd;
 
         private static int at(int i, int j) {
             return (i + 2) * WIDTH + j * Big.SLOT;
@@ -1745,6 +1735,7 @@ public final class OptimumHouse {
             rows = model.rows;
             places = variables;
             hasHelper = false;
+            keptEnd = 0;
             Big.store(cells, at(DENOMINATOR, 0), 1);
             for (int i = 0; i <= rows; i++) {
                 basic[i] = variables + i;
@@ -2134,34 +2125,40 @@ public final class OptimumHouse {
             basic[rows] = variables + rows;
         }
 
-        /** All that is there, in the array that is given if that is long enough, else in a new one. */
-        int[] keep(int[] given) {
+        boolean hasKept() {
+            return keptEnd > 0;
+        }
+
+        /** Keeps all that is there, and the row that it broke at, behind what was kept before. */
+        void keep(int brokenAt) {
             int used = at(rows + 1, 0);
-            int[] kept = given;
-            if (kept == null || kept.length < KEPT_HEAD + used) {
-                kept = new int[KEPT_HEAD + used];
-            }
-            kept[0] = rows;
-            kept[1] = places;
-            System.arraycopy(basic, 0, kept, 2, MOST_ROWS + 1);
-            System.arraycopy(free, 0, kept, 3 + MOST_ROWS, MOST_PLACES + 1);
-            System.arraycopy(cells, 0, kept, KEPT_HEAD, used);
-            return kept;
-        }
-
-        int rowsKept(int[] kept) {
-            return kept == null || kept.length < KEPT_HEAD ? 0 : kept[0];
-        }
-
-        void restore(int[] kept) {
-            if (kept == null || kept.length < KEPT_HEAD) {
+            int end = keptEnd + used + rows + places + KEPT_TAIL;
+            if (end > kept.length) {
                 return;
             }
-            rows = kept[0];
-            places = kept[1];
-            System.arraycopy(kept, 2, basic, 0, MOST_ROWS + 1);
-            System.arraycopy(kept, 3 + MOST_ROWS, free, 0, MOST_PLACES + 1);
-            System.arraycopy(kept, KEPT_HEAD, cells, 0, at(rows + 1, 0));
+            System.arraycopy(cells, 0, kept, keptEnd, used);
+            System.arraycopy(basic, 1, kept, keptEnd + used, rows);
+            System.arraycopy(free, 1, kept, keptEnd + used + rows, places);
+            kept[end - 3] = brokenAt;
+            kept[end - 2] = rows;
+            kept[end - 1] = places;
+            keptEnd = end;
+        }
+
+        /** Brings back what was kept last; answers the row that it broke at. */
+        int restore() {
+            if (keptEnd < KEPT_TAIL) {
+                return 0;
+            }
+            rows = kept[keptEnd - 2];
+            places = kept[keptEnd - 1];
+            int brokenAt = kept[keptEnd - 3];
+            int used = at(rows + 1, 0);
+            keptEnd -= used + rows + places + KEPT_TAIL;
+            System.arraycopy(kept, keptEnd, cells, 0, used);
+            System.arraycopy(kept, keptEnd + used, basic, 1, rows);
+            System.arraycopy(kept, keptEnd + used + rows, free, 1, places);
+            return brokenAt;
         }
     }
 
@@ -2170,9 +2167,12 @@ public final class OptimumHouse {
         private static final int MOST_STEPS = 1000;
         private static final int WIDTH = MOST_VARIABLES + 2;
         private static final int DENOMINATOR = MOST_VARIABLES + 1;
+        /** More than a VALUE or a word with two POINTS can have. */
+        private static final int HEAD_BYTES = 1500;
 
+        /** What stands ahead of the TREES. */
+        private final Text head = new Text(HEAD_BYTES);
         private final Text trees = new Text(TAPE_BYTES);
-        private final Text whole = new Text(TAPE_BYTES);
         /** A POINT: its goal's number, those of the variables, and what all are over. */
         private final int[] point = new int[WIDTH * Big.SLOT];
         private final Big upper = new Big();
@@ -2184,24 +2184,32 @@ public final class OptimumHouse {
         private final Big help = new Big();
 
         void clear() {
+            head.clear();
             trees.clear();
-            whole.clear();
         }
 
         boolean isTreeOver() {
             return trees.isOver();
         }
 
+        boolean isMade() {
+            return head.length() > 0;
+        }
+
         boolean isOver() {
-            return whole.isOver();
+            return head.isOver() || proofLength() > TAPE_BYTES;
         }
 
         int proofLength() {
-            return whole.length();
+            return head.length() + (trees.length() > 0 ? 1 + trees.length() : 0);
         }
 
         int proofByte(int k) {
-            return whole.byteAt(k);
+            if (k < head.length()) {
+                return head.byteAt(k);
+            }
+            int behind = k - head.length() - 1;
+            return behind < 0 && trees.length() > 0 ? BLANK : trees.byteAt(behind);
         }
 
         void takePoint(Dictionary dictionary, int variables) {
@@ -2314,49 +2322,47 @@ public final class OptimumHouse {
                 pointNumber(j, second);
                 divisor.copy(common(first, second));
             }
-            whole.word("at");
+            head.word("at");
             for (int j = 1; j <= variables; j++) {
                 pointNumber(j, first);
                 first.divide(divisor, quotient, help);
-                whole.number(quotient, true);
+                head.number(quotient, true);
             }
-            whole.word("/");
+            head.word("/");
             pointDenominator(first);
             first.divide(divisor, quotient, help);
-            whole.number(quotient, true);
+            head.number(quotient, true);
         }
 
         void proveOptimal(Model model) {
-            whole.clear();
-            whole.word("optimal");
+            head.clear();
+            head.word("optimal");
             pointNumber(0, upper);
             pointDenominator(lower);
             reduce(upper, lower, !model.max);
-            whole.number(upper, true);
-            whole.word("/");
-            whole.number(lower, true);
+            head.number(upper, true);
+            head.word("/");
+            head.number(lower, true);
             writePoint(model.variables);
-            whole.append(trees);
         }
 
         void proveInfeasible() {
-            whole.clear();
-            whole.word("infeasible");
-            whole.append(trees);
+            head.clear();
+            head.word("infeasible");
         }
 
         void proveUnbounded(Model model, Dictionary dictionary) {
             takePoint(dictionary, model.variables);
-            whole.clear();
-            whole.word("unbounded");
+            head.clear();
+            head.word("unbounded");
             writePoint(model.variables);
-            whole.word("along");
+            head.word("along");
             for (int j = 1; j <= model.variables; j++) {
                 dictionary.rayNumber(j, first);
-                whole.number(first, true);
+                head.number(first, true);
             }
-            whole.word("/");
-            whole.word("1");
+            head.word("/");
+            head.word("1");
         }
     }
 
@@ -2382,16 +2388,12 @@ public final class OptimumHouse {
         private final Rows rows = new Rows();
         private final Dictionary dictionary = new Dictionary();
         private final Prover prover = new Prover();
-        /** Of the NODES whose second child waits: their dictionaries, and the rows they broke at. */
-        private final int[][] kept = new int[MOST_ROWS + 1][];
-        private final int[] broken = new int[MOST_ROWS + 1];
         private final Big left = new Big();
         private final Big right = new Big();
         private final Big top = new Big();
         private final Big bottom = new Big();
-        private Model model;
+        private Model model = new Model();
         private int allowed;
-        private int waiting;
         private int status;
         private int pivots;
         private int nodes;
@@ -2408,7 +2410,6 @@ public final class OptimumHouse {
             rows.take(told);
             dictionary.start(told);
             prover.clear();
-            waiting = 0;
             status = GOING;
             pivots = 0;
             nodes = 1;
@@ -2441,7 +2442,7 @@ public final class OptimumHouse {
                 case 5:
                     return rows.count();
                 case 6:
-                    return model == null ? 0 : rows.count() - model.rows;
+                    return rows.count() - model.rows;
                 case 7:
                     return phase;
                 case 8:
@@ -2453,7 +2454,7 @@ public final class OptimumHouse {
 
         /** The VALUE (0) or a variable of the BEST, or the price of row -j; false without. */
         boolean writeFraction(int j, Text text) {
-            if (model == null || j > model.variables || j < -rows.count()) {
+            if (j > model.variables || j < -rows.count()) {
                 return false;
             }
             if (j < 0) {
@@ -2513,7 +2514,7 @@ public final class OptimumHouse {
 
         /** Writes the proof when the work has just ended with one. */
         void prove() {
-            if (model == null || prover.proofLength() > 0) {
+            if (prover.isMade()) {
                 return;
             }
             if (status == OPTIMAL) {
@@ -2604,16 +2605,16 @@ public final class OptimumHouse {
             prover.writeLeaf(dictionary, model.variables, source);
             if (prover.isTreeOver()) {
                 status = TOO_MUCH;
-            } else if (waiting > 0) {
+            } else if (dictionary.hasKept()) {
                 next = SECOND_CHILD;
             } else {
                 status = bests > 0 ? OPTIMAL : INFEASIBLE;
             }
         }
 
-        /** Counts a child of a NODE with so many rows; false if it is TOO MUCH. */
-        private boolean countChild(int rowsOfParent) {
-            if (prover.isTreeOver() || rowsOfParent >= MOST_ROWS || nodes >= MOST_NODES) {
+        /** Counts a child, if its NODE has room for its row; false if it is TOO MUCH. */
+        private boolean countChild(boolean hasRoom) {
+            if (prover.isTreeOver() || !hasRoom || nodes >= MOST_NODES) {
                 status = TOO_MUCH;
                 return false;
             }
@@ -2625,7 +2626,7 @@ public final class OptimumHouse {
 
         private void cut() {
             prover.writeCut(dictionary, model.variables, source, rows);
-            if (!countChild(rows.count())) {
+            if (!countChild(!rows.isFull())) {
                 return;
             }
             cuts++;
@@ -2638,25 +2639,21 @@ public final class OptimumHouse {
             int variable = dictionary.numberAt(source);
             dictionary.floor(source, top);
             prover.writeBranch(variable, top);
-            if (!countChild(rows.count())) {
+            if (!countChild(!rows.isFull())) {
                 return;
             }
-            kept[waiting] = dictionary.keep(kept[waiting]);
-            broken[waiting] = source;
-            waiting++;
+            dictionary.keep(source);
             rows.addLimit(variable, top, false);
             dictionary.addLimit(source, false);
         }
 
         private void beginSecondChild() {
-            int[] parent = kept[waiting - 1];
-            if (!countChild(dictionary.rowsKept(parent))) {
+            // The first child had room for its row, so there is room for this one.
+            if (!countChild(true)) {
                 return;
             }
-            waiting--;
-            dictionary.restore(parent);
+            source = dictionary.restore();
             rows.keep(dictionary.rowCount());
-            source = broken[waiting];
             dictionary.floor(source, top);
             rows.addLimit(dictionary.numberAt(source), top, true);
             dictionary.addLimit(source, true);
@@ -2685,9 +2682,9 @@ public final class OptimumHouse {
         private static final int MOST_DIGITS = 60;
         private static final int MOST_COUNT = 1000000;
 
-        private Text text;
-        /** Of each token its first byte's place times KINDS, and its kind; they grow as need be. */
-        private int[] marks = new int[256];
+        private Text text = new Text(0);
+        /** Of each token its first byte's place times KINDS, and its kind. */
+        private final int[] marks = new int[TAPE_BYTES + 1];
         private int tokens;
         private int at;
 
@@ -2695,7 +2692,7 @@ public final class OptimumHouse {
         void open(Text given) {
             text = given;
             tokens = 0;
-            int length = given.length();
+            int length = text.length();
             int i = 0;
             for (int turn = 0; turn < TAPE_BYTES && i < length; turn++) {
                 i = scanOne(i, length);
@@ -2725,11 +2722,10 @@ public final class OptimumHouse {
         }
 
         private void mark(int kind, int start) {
-            if (tokens >= marks.length) {
-                marks = Arrays.copyOf(marks, 2 * marks.length);
+            if (tokens < marks.length) {
+                marks[tokens] = start * KINDS + kind;
+                tokens++;
             }
-            marks[tokens] = start * KINDS + kind;
-            tokens++;
         }
 
         /** Takes the blank or the token at i; answers the place behind it, which is beyond i. */
@@ -2954,7 +2950,7 @@ public final class OptimumHouse {
         private final int[] waitingVariable = new int[MOST_ROWS + 1];
         private final int[] waitingBound = new int[(MOST_ROWS + 1) * Big.SLOT];
         private int waiting;
-        private Model model;
+        private Model model = new Model();
         private int faultKind;
         private int faultAt;
 

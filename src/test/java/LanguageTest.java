@@ -96,9 +96,13 @@ public final class LanguageTest {
         Kit.due("imports", String.join(" ", imports), "import java.util.Arrays;");
         int open = 0;
         int longest = 0;
+        boolean constructor = false;
         for (String line : bare.split("\n")) {
             boolean head = line.matches("( {4}| {8})[A-Za-z].*\\) \\{") && !line.contains(" class ");
             open = head ? 1 : open > 0 ? open + 1 : 0;
+            constructor = head ? line.matches(" +(public )?[A-Z][A-Za-z]*\\(.*") : constructor;
+            boolean makes = line.matches(".*\\b(new|copyOf|copyOfRange|clone|StringBuilder|substring|toCharArray)\\b.*");
+            Kit.due("a method makes something: " + line, makes && open > 0 && !constructor, false);
             if (line.matches("( {4}| {8})\\}")) {
                 longest = Math.max(longest, open);
                 open = 0;
