@@ -352,6 +352,17 @@ public final class CheckTest {
         for (int i = 0; i < 3000; i++) {
             divides(number(random, limbs, 1 + random.nextInt(6)), number(random, limbs, 1 + random.nextInt(6)));
         }
+        // One below, at and above a multiple: there a digit that is guessed from the first limbs is one too high.
+        for (int i = 0; i < 3000; i++) {
+            BigInteger q = number(random, limbs, 1 + random.nextInt(6));
+            BigInteger product = q.multiply(number(random, limbs, 1 + random.nextInt(3)));
+            for (int more = -1; more <= 1; more++) {
+                BigInteger y = product.add(BigInteger.valueOf(more));
+                if (y.toString().length() <= 60) {
+                    divides(y, q);
+                }
+            }
+        }
     }
 
     private static BigInteger number(Random random, int[] limbs, int count) {

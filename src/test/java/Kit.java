@@ -100,7 +100,10 @@ final class Kit {
 
     /** The FAULT and PLACE of a tell on a new house, as "2 at 7", or "0". */
     static String telling(String text) {
-        OptimumHouse house = new OptimumHouse();
+        return telling(new OptimumHouse(), text);
+    }
+
+    static String telling(OptimumHouse house, String text) {
         return found(house, tell(house, text));
     }
 

@@ -33,6 +33,7 @@ public final class TextEdgesTest {
         depth();
         end();
         firstOfAll();
+        everyToken();
         fromTheLeft();
         thereAlready();
         sorts();
@@ -330,6 +331,10 @@ public final class TextEdgesTest {
         // It comes in its turn among those of FAULT 1, and ahead of all others.
         fault(1, "max x+" + times("-", 30) + "^1+?;");
         fault(1, "max ^?+" + times("-", 30) + "1;");
+        fault(1, "max " + times("(", 30) + "^-1" + times(")", 30) + ";");
+        fault(1, "max x+" + times("(", 30) + "^1" + times(")", 30) + ";");
+        fault(1, sums.toString().replace("max ", "max x+") + "(^1)" + times(")", 29) + ";");
+        fault(1, sums.toString().replace("max ", "max x+") + "sum j in S(^1)" + times(")", 29) + ";");
     }
 
     private static void end() {
@@ -354,6 +359,35 @@ public final class TextEdgesTest {
         fault(1, "max ^?;?");
         fault(1, "max ^);?");
         fault(2, "max ^x;row a:1<=1;");
+    }
+
+    private static final String ALL_SORTS = "set S = 1 .. 2 ; par p [ S ] = 1 , - 2 ; par q [ S , S ] = 1 , 2 , 3 , 4 ; "
+        + "var x [ S , S ] whole ; var y ; max sum i in S ( p [ i ] * x [ i , 2 ] ) - y ; "
+        + "row a [ i in S ] : x [ i - 0 , 1 ] <= ( 3 + i ) * q [ 1 , i ] ; row b : - y >= 2 ; row c : y = x [ 1 , 1 ] ;";
+
+    /** Each token in the place of each other one, ahead of it, or away: as the second reading of the document has it. */
+    private static void everyToken() {
+        Kit.says("the first token that is none or can't stand there");
+        fine(ALL_SORTS);
+        String[] tokens = ALL_SORTS.split(" ");
+        String[] more = {"n", "S", "p", "x", "y", "i", "a", "0", "7", "99999", "?"};
+        OptimumHouse house = new OptimumHouse();
+        for (int i = 0; i < tokens.length; i++) {
+            String ahead = String.join(" ", java.util.Arrays.copyOf(tokens, i)) + " ";
+            String behind = " " + String.join(" ", java.util.Arrays.copyOfRange(tokens, i + 1, tokens.length));
+            same(house, ahead + behind);
+            same(house, ahead);
+            for (String[] sort : new String[][] {WORDS, SIGNS, more}) {
+                for (String token : sort) {
+                    same(house, ahead + token + behind);
+                    same(house, ahead + token + " " + tokens[i] + behind);
+                }
+            }
+        }
+    }
+
+    private static void same(OptimumHouse house, String text) {
+        Kit.due("tell of " + text, Kit.telling(house, text), ReferenceTell.tell(text));
     }
 
     private static void fromTheLeft() {

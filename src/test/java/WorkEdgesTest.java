@@ -22,6 +22,7 @@ public final class WorkEdgesTest {
         branchRows();
         ends();
         fortyRows();
+        waiting();
         thousandNodes();
         proofBytes();
         treesBytes();
@@ -302,6 +303,7 @@ public final class WorkEdgesTest {
         Kit.due("nodes", house.look(2), 73);
         Kit.due("check", Kit.checking(house, Kit.proof(house)), "0");
         house = solved(text + "row d:0<=0;", 0, 6);
+        stopped(house, text + "row d:0<=0;");
         Kit.due("the latest node's rows", house.look(5), 40);
         Kit.due("how far", house.look(6), 35);
         Kit.due("no proof", house.look(8), 0);
@@ -312,6 +314,29 @@ public final class WorkEdgesTest {
         Kit.due("its row 40", house.coefficient(40, 0) != 0, true);
         Kit.due("anew", house.begin(0), true);
         Kit.due("it goes on", house.look(0), 1);
+    }
+
+    /** A way of first children alone, from the top down: the second children of all NODES with 3 to 39 rows wait. */
+    private static void waiting() {
+        Kit.says("first the child with the row x at most v, and when all below that is done, the one with x at least v + 1");
+        String text = "var x whole;var y whole;max x+y;row a:2*x-2*y=1;row b:2*x<=37;";
+        OptimumHouse house = Kit.house(text);
+        house.begin(0);
+        int most = 0;
+        for (int i = 0; i < 1000 && house.look(0) == 1; i++) {
+            house.work(1);
+            most = Math.max(most, house.look(5));
+            if (house.look(5) == 39) {
+                Kit.due("no second child has begun", house.look(2), 37);
+            }
+        }
+        Kit.due("rows", most, 40);
+        Kit.due("infeasible", house.look(0), 3);
+        ReferenceWork reference = new ReferenceWork(ReferenceTell.model(text), 0);
+        reference.run();
+        Kit.due("as the reference has it", ReferenceWork.picture(house), reference.pictures.get(reference.pictures.size() - 1));
+        Kit.due("proof", Kit.proof(house), reference.proof);
+        Kit.due("check", Kit.checking(house, Kit.proof(house)), "0");
     }
 
     private static void thousandNodes() {
@@ -344,6 +369,13 @@ public final class WorkEdgesTest {
         Kit.due("29,999 bytes", house.look(8), 29999);
     }
 
+    /** The work stopped where the second reading of the document stops. */
+    private static void stopped(OptimumHouse house, String text) {
+        ReferenceWork reference = new ReferenceWork(ReferenceTell.model(text), 0);
+        reference.run();
+        Kit.due("where it stopped", ReferenceWork.picture(house), reference.pictures.get(reference.pictures.size() - 1));
+    }
+
     private static void treesBytes() {
         Kit.says("TOO MUCH: a proof of more than 30,000 bytes (as soon as its TREES are)");
         String text = "set S=1..11;par c[S]=7,1,8,1,5,4,1,4,4,7,8;var x[S]whole;max sum i in S(c[i]*x[i]);"
@@ -351,9 +383,12 @@ public final class WorkEdgesTest {
         OptimumHouse house = solved(text, 0, 6);
         Kit.due("fewer nodes", house.look(2) < 1000, true);
         Kit.due("fewer rows", house.look(5) < 40, true);
-        ReferenceWork reference = new ReferenceWork(ReferenceTell.model(text), 0);
-        reference.run();
-        Kit.due("where it stopped", ReferenceWork.picture(house), reference.pictures.get(reference.pictures.size() - 1));
+        stopped(house, text);
+        // Here it is the word branch that makes them too much: its child doesn't begin.
+        text = "set S=1..11;par c[S]=5,2,2,8,5,8,1,3,3,6,4;par e[S]=4,6,8,6,6,4,6,2,6,4,4;var x[S]whole;"
+            + "max sum i in S(c[i]*x[i]);row a[i in S]:x[i]<=1;row b:sum i in S(e[i]*x[i])=37;";
+        house = solved(text, 0, 6, 651);
+        stopped(house, text);
         // TREES of 30,000 bytes aren't more: the work is done, and the word ahead makes it too much.
         house = solved("set S=1..10;par c[S]=2,8,2,0,6,1,2,1,5,0;par e[S]=8,8,6,4,8,8,4,8,8,6;var x[S]whole;"
             + "max sum i in S(c[i]*x[i]);row a[i in S]:x[i]<=1;row b:sum i in S(e[i]*x[i])=37;", 0, 6, 711);
