@@ -2150,14 +2150,20 @@ public final class OptimumHouse {
             if (keptEnd < KEPT_TAIL) {
                 return 0;
             }
-            rows = kept[keptEnd - 2];
-            places = kept[keptEnd - 1];
             int brokenAt = kept[keptEnd - 3];
-            int used = at(rows + 1, 0);
-            keptEnd -= used + rows + places + KEPT_TAIL;
-            System.arraycopy(kept, keptEnd, cells, 0, used);
-            System.arraycopy(kept, keptEnd + used, basic, 1, rows);
-            System.arraycopy(kept, keptEnd + used + rows, free, 1, places);
+            int keptRows = kept[keptEnd - 2];
+            int keptPlaces = kept[keptEnd - 1];
+            int used = at(keptRows + 1, 0);
+            int begin = keptEnd - KEPT_TAIL - keptPlaces - keptRows - used;
+            if (begin < 0) {
+                return 0;
+            }
+            System.arraycopy(kept, begin, cells, 0, used);
+            System.arraycopy(kept, begin + used, basic, 1, keptRows);
+            System.arraycopy(kept, begin + used + keptRows, free, 1, keptPlaces);
+            rows = keptRows;
+            places = keptPlaces;
+            keptEnd = begin;
             return brokenAt;
         }
     }
