@@ -1053,6 +1053,7 @@ public final class OptimumHouse {
         private int looked;
         private int at;
         private int faultKind;
+        private int faultToken;
         private int faultAt;
 
         int faultPlace() {
@@ -1101,17 +1102,18 @@ public final class OptimumHouse {
                         break;
                 }
             }
+            faultAt = fine ? NONE : syntax.start(faultToken);
             return faultKind;
         }
 
         private boolean fail(int kind, int token) {
             faultKind = kind;
-            faultAt = syntax.start(token);
+            faultToken = token;
             return false;
         }
 
-        private int find(int token) {
-            long name = syntax.value(token);
+        /** The place of a packed name in the table; NONE without. */
+        private int find(long name) {
             for (int s = 0; s < known; s++) {
                 if (names[s] == name) {
                     return s;
@@ -1134,7 +1136,7 @@ public final class OptimumHouse {
 
         /** The new name's place in the table, or NONE, with the FAULT, if it is there already. */
         private int learn(int token, int sort) {
-            if (find(token) >= 0 || known >= MOST_NAMES) {
+            if (find(syntax.value(token)) >= 0 || known >= MOST_NAMES) {
                 fail(FAULT_NAME, token);
                 return NONE;
             }
@@ -1182,7 +1184,7 @@ public final class OptimumHouse {
                 return true;
             }
             for (int what = FIRST; what <= SECOND; what++) {
-                int set = find(at + 1);
+                int set = find(syntax.value(at + 1));
                 if (!isSort(set, Syntax.SET)) {
                     return fail(FAULT_NAME, at + 1);
                 }
@@ -1282,7 +1284,7 @@ public final class OptimumHouse {
                 at++;
                 return tellOneRow(name);
             }
-            int set = find(at + 3);
+            int set = find(syntax.value(at + 3));
             int index = learn(at + 1, Syntax.NAME);
             if (index < 0) {
                 return false;
@@ -1291,7 +1293,8 @@ public final class OptimumHouse {
                 return fail(FAULT_NAME, at + 3);
             }
             int body = at + 6;
-            for (int value = fact(set, LOW); value <= fact(set, HIGH); value++) {
+            int high = fact(set, HIGH);
+            for (int value = fact(set, LOW); value <= high; value++) {
                 setFact(index, LOW, value);
                 at = body;
                 if (!tellOneRow(name)) {
@@ -1425,7 +1428,7 @@ public final class OptimumHouse {
             int kind = syntax.kind(at);
             int symbol = NONE;
             if (kind == Syntax.NAME) {
-                symbol = find(at);
+                symbol = find(syntax.value(at));
                 if (!canBeFactor(symbol)) {
                     return fail(FAULT_NAME, at);
                 }
@@ -1479,7 +1482,7 @@ public final class OptimumHouse {
 
         private boolean summed(int depth) {
             int first = at;
-            int set = find(at + 3);
+            int set = find(syntax.value(at + 3));
             int index = learn(at + 1, Syntax.NAME);
             if (index < 0) {
                 return false;
@@ -1487,7 +1490,8 @@ public final class OptimumHouse {
             if (!isSort(set, Syntax.SET)) {
                 return fail(FAULT_NAME, at + 3);
             }
-            for (int value = fact(set, LOW); value <= fact(set, HIGH); value++) {
+            int high = fact(set, HIGH);
+            for (int value = fact(set, LOW); value <= high; value++) {
                 setFact(index, LOW, value);
                 at = first + 5;
                 if (!expression(depth + 1)) {
@@ -1542,7 +1546,7 @@ public final class OptimumHouse {
         }
 
         private void putNamed(long[] factor, int symbol, int where) {
-            if (isSort(symbol, Syntax.PAR)) {
+            if (fact(symbol, SORT) == Syntax.PAR) {
                 factor[0] = where >= 0 && where < values.length ? values[where] : 0;
             } else if (where >= 1 && where < WIDTH) {
                 factor[where] = 1;
@@ -1556,8 +1560,8 @@ public final class OptimumHouse {
                 at++;
                 return (int) syntax.value(at - 1);
             }
-            int symbol = find(at);
-            if (!isSort(symbol, Syntax.NAME)) {
+            int symbol = find(syntax.value(at));
+            if (symbol < 0 || fact(symbol, SORT) != Syntax.NAME) {
                 fail(FAULT_NAME, at);
                 return 0;
             }
