@@ -2524,7 +2524,8 @@ public final class OptimumHouse {
 
         /** Writes the proof when the work has just ended with one. */
         void prove() {
-            if (prover.isMade()) {
+            // Only a proof that is whole can be too long here: TREES alone are looked at as they are written.
+            if (!isProved() || prover.isMade()) {
                 return;
             }
             if (status == OPTIMAL) {
