@@ -63,6 +63,8 @@ final class ReferenceWork {
     final Model model;
     final int allowed;
     final List<String> pictures = new ArrayList<>();
+    /** How long the TREES were at each picture. */
+    final List<Integer> treesBytes = new ArrayList<>();
     final StringBuilder trees = new StringBuilder();
     Dict dict;
     List<BigInteger[]> rows = new ArrayList<>();
@@ -96,7 +98,12 @@ final class ReferenceWork {
         } catch (Stop stop) {
             status = stop.status;
         }
+        takePicture();
+    }
+
+    void takePicture() {
         pictures.add(picture());
+        treesBytes.add(trees.length());
     }
 
     void root() {
@@ -140,7 +147,7 @@ final class ReferenceWork {
     }
 
     void pivot(int r, int s) {
-        pictures.add(picture());
+        takePicture();
         Dict a = dict;
         BigInteger p = a.t[r][s];
         BigInteger g = BigInteger.valueOf(p.signum());

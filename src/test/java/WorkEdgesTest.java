@@ -26,6 +26,7 @@ public final class WorkEdgesTest {
         thousandNodes();
         proofBytes();
         treesBytes();
+        treesJustFull();
         Kit.done();
     }
 
@@ -393,5 +394,46 @@ public final class WorkEdgesTest {
         house = solved("set S=1..10;par c[S]=2,8,2,0,6,1,2,1,5,0;par e[S]=8,8,6,4,8,8,4,8,8,6;var x[S]whole;"
             + "max sum i in S(c[i]*x[i]);row a[i in S]:x[i]<=1;row b:sum i in S(e[i]*x[i])=37;", 0, 6, 711);
         Kit.due("no proof", house.look(8), 0);
+    }
+
+    private static void treesJustFull() {
+        Kit.says("TOO MUCH: a proof of more than 30,000 bytes: TREES of just so many aren't, ahead of a PIVOT");
+        String text = "var x1 whole;var x2 whole;var x3 whole;var x4 whole;var x5 whole;var x6 whole;var x7 whole;"
+            + "max -3*x1-2*x2-2*x3-2*x4-4*x5+x6-x7;row r1:6*x1+2*x2+4*x3-6*x4-4*x5+4*x6+2*x7=71;"
+            + "row r2:x2<=10;row r3:x3<=3;row r4:x6<=8;";
+        justFull(text, 3000, 3007, 6);
+        Kit.says("TOO BIG: the PIVOT isn't counted: also with TREES of just 30,000 bytes, which aren't TOO MUCH");
+        // With b at most 0 nothing goes; with b at least 1 each x is at least 97510 times the one before.
+        text = "set S=1..10;set T=1..9;par c[S]=5,4,7,2,8,3,1,2,4,6;par e[S]=2,4,2,4,4,2,2,2,2,4;"
+            + "var b whole;var y whole;var x[S]whole;max 25*b+sum i in S(c[i]*x[i])-99999*y;"
+            + "row p:x[1]>=99998*b-49999;row q[i in T]:x[i+1]>=97510*x[i]-97510+97510*b;"
+            + "row o:4*sum i in S(e[i]*x[i])-32*y=92;row u:11*x[10]<=11+11*y;";
+        justFull(text, 1282, 1283, 5);
+    }
+
+    /** Behind so many PIVOTS the TREES are just 30,000 bytes, first; the work ends behind pivotsInAll. */
+    private static void justFull(String text, int pivots, int pivotsInAll, int end) {
+        ReferenceWork reference = new ReferenceWork(ReferenceTell.model(text), 0);
+        reference.run();
+        Kit.due("TREES are just full first behind so many", reference.treesBytes.indexOf(30000), pivots);
+        OptimumHouse house = Kit.house(text);
+        house.begin(0);
+        for (int asked = 0; asked < pivots; asked += 500) {
+            house.work(Math.min(500, pivots - asked));
+        }
+        for (int done = pivots; done < pivotsInAll; done++) {
+            Kit.due("TREES after pivot " + done, reference.treesBytes.get(done), 30000);
+            Kit.due("after pivot " + done, ReferenceWork.picture(house), reference.pictures.get(done));
+            Kit.due("it goes on", house.look(0), 1);
+            Kit.due("no proof yet", house.look(8), 0);
+            Kit.due("the next PIVOT", house.work(1), 1);
+        }
+        // TOO BIG shows when the PIVOT is tried; till then the work goes on.
+        Kit.due("behind the last PIVOT", house.look(0), end == 5 ? 1 : end);
+        Kit.due("no PIVOT more", house.work(500), 0);
+        Kit.due("pivots in all", house.look(1), pivotsInAll);
+        Kit.due("end", house.look(0), end);
+        Kit.due("it stays", house.work(1), 0);
+        Kit.due("at the end", ReferenceWork.picture(house), reference.pictures.get(reference.pictures.size() - 1));
     }
 }
